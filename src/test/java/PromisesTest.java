@@ -21,12 +21,15 @@ public final class PromisesTest {
         test.askCreditHasATop();
         test.askWithTwoComing();
         test.askLetsOthersGo();
+        test.askLetsNoMoreGoThanNeeded();
         test.askLetsNoneGoIfNotEnough();
         test.askLetsOnlyLesserCreditGo();
         test.mayGoLooksAtRacks();
         test.writeNeedsMajority();
+        test.writeAmongSixHosts();
         test.writeNeedsACopy();
         test.writeLosesUnreached();
+        test.writeKeepsLeastInOneRack();
         test.writeUsesUpCredit();
         test.writeLetsGoByHosts();
         test.writeKeepsRacks();
@@ -46,6 +49,7 @@ public final class PromisesTest {
         test.bestFollowsTheLog();
         test.bestGoesByNumbers();
         test.bestOverOpenLines();
+        test.bestAtBeforeBest();
         test.bestWithLaterLines();
         test.logEndsAtSixty();
         test.log();
@@ -320,6 +324,7 @@ public final class PromisesTest {
         due("not yet", x.about(0, 1), 0);
         x.ask(2, 0);
         due("just enough", x.about(0, 1), 4);
+        due("count(5)", x.count(5), 1);
         due("credit stays", x.credit(2, 0), 12);
         due("cost", x.cost(0, 2), 12);
         due("made", x.count(6), 1);
@@ -368,7 +373,7 @@ public final class PromisesTest {
         due("from", x.coming(0, 3, 0), 2);
     }
 
-    /** Four things on host 1 (room 12, each size 3) with credits 4, 2, 2, 6, all on host 0 too. */
+    /** Four things on host 1 (room 12, each size 3) with credits 4, 3, 3, 6, all on host 0 too. */
     private static CopyPlacer crowded() {
         CopyPlacer x = new CopyPlacer();
         x.host(200, 0);
@@ -411,6 +416,31 @@ public final class PromisesTest {
         due("it went", x.about(0, 0), 1);
         due("free", x.hostOf(1, 3), 0);
         due("count(8)", x.count(8), 3);
+    }
+
+    private void askLetsNoMoreGoThanNeeded() {
+        checks.part("9 ask, no more than needed");
+        CopyPlacer x = crowded();
+        x.thing(3, 1, 0);
+        ask(x, 1, 4, 3);
+        due("like credit doesn't go", x.about(4, 1), 0);
+        ask(x, 1, 4, 1);
+        due("made", x.about(4, 1), 2);
+        due("the least of like ones went", x.about(1, 0), 1);
+        due("the next one stays", x.about(2, 0), 3);
+        due("count(8)", x.count(8), 1);
+        due("free", x.hostOf(1, 3), 0);
+        x = crowded();
+        x.pin(2, 1, true);
+        x.thing(4, 1, 0);
+        ask(x, 1, 4, 4);
+        due("one short: none made", x.about(4, 1), 0);
+        due("one short: none goes", x.about(1, 0), 3);
+        ask(x, 1, 4, 1);
+        due("two go for what was one short", x.about(4, 1), 2);
+        due("by the least credit", x.about(1, 0), 1);
+        due("then the next", x.about(0, 0), 1);
+        due("free", x.hostOf(1, 3), 2);
     }
 
     private void askLetsNoneGoIfNotEnough() {
@@ -506,6 +536,26 @@ public final class PromisesTest {
         due("cost", x.cost(0, 1), 4);
     }
 
+    private void writeAmongSixHosts() {
+        checks.part("10 write, six hosts");
+        CopyPlacer x = chain(1, 0, 0, 0, 0, 0, 0);
+        x.thing(1, 1, 4);
+        x.cut(1, 2, true);
+        due("four of six", x.write(2, 0), 2);
+        x.cut(2, 3, true);
+        due("three of six without host 0", x.write(4, 0), -2);
+        x.cut(1, 2, false);
+        due("three of six with host 0", x.write(2, 0), -3);
+        x.cut(0, 1, true);
+        due("two of six", x.write(1, 0), -2);
+        due("one of six, host 0", x.write(0, 0), -2);
+        CopyPlacer y = chain(1, 0, 0);
+        y.thing(1, 1, 1);
+        y.cut(0, 1, true);
+        due("one of two, not host 0", y.write(1, 0), -2);
+        due("one of two, host 0", y.write(0, 0), -3);
+    }
+
     private void writeNeedsACopy() {
         checks.part("10 write, no copy");
         CopyPlacer x = chain(1, 0, 0, 0);
@@ -538,6 +588,26 @@ public final class PromisesTest {
         due("pin stays", x.about(0, 2), 4);
         due("count(9)", x.count(9), 1);
         due("free", x.hostOf(2, 3), 200);
+        x.cut(1, 2, false);
+        x.cut(0, 1, true);
+        due("from the other side", x.write(2, 0), 2);
+        due("host 0 is no other", x.about(0, 0), 2);
+        due("count(9)", x.count(9), 2);
+    }
+
+    private void writeKeepsLeastInOneRack() {
+        checks.part("10 write, least in one rack");
+        CopyPlacer x = chain(1, 0, 0, 0);
+        x.thing(1, 2, 0);
+        x.tick(2);
+        due("two in one rack", x.about(0, 0), 3);
+        due("write(2, 0)", x.write(2, 0), 3);
+        due("no more than least: none goes", x.about(0, 0), 3);
+        x.ask(2, 0);
+        x.tick(1);
+        due("three", x.about(0, 0), 7);
+        due("write(2, 0)", x.write(2, 0), 3);
+        due("as many racks as with it: one goes", x.about(0, 0), 6);
     }
 
     private void writeUsesUpCredit() {
@@ -945,6 +1015,22 @@ public final class PromisesTest {
         x.fall(0);
         due("as if up", x.best(0), 16);
         due("where nothing is now", x.bestAt(0, 1), 1);
+    }
+
+    private void bestAtBeforeBest() {
+        checks.part("20 bestAt, ahead of best");
+        CopyPlacer x = chain(4, 0, 0);
+        x.host(200, 0);
+        x.host(200, 0);
+        x.line(2, 3, 4);
+        x.thing(1, 1, 0);
+        x.thing(1, 1, 3);
+        ask(x, 1, 0, 2);
+        ask(x, 2, 1, 2);
+        due("where 1 is", x.bestAt(0, 0), 2);
+        due("beyond its hosts", x.bestAt(1, 0), 4);
+        due("best", x.best(0), 4);
+        due("best", x.best(1), 4);
     }
 
     private void bestWithLaterLines() {
