@@ -19,6 +19,7 @@ public final class PromisesTest {
         test.askCreditsOwnCopy();
         test.askMakesCopy();
         test.askCreditHasATop();
+        test.askLetsNearTheTopGo();
         test.askWithTwoComing();
         test.askLetsOthersGo();
         test.askLetsNoMoreGoThanNeeded();
@@ -356,6 +357,28 @@ public final class PromisesTest {
         ask(x, 4, 0, 20);
         due("one with room", x.about(0, 1), 16);
         due("dear copy", x.cost(0, 2), 4000);
+    }
+
+    private void askLetsNearTheTopGo() {
+        checks.part("9 ask, 4999 goes for 5000");
+        CopyPlacer x = chain(50, 0, 0, 0, 0, 0);
+        x.host(20, 0);
+        x.line(4, 5, 1);
+        x.thing(20, 1, 0);
+        x.thing(20, 1, 0);
+        x.pin(0, 0, true);
+        ask(x, 5, 0, 20);
+        due("it comes", x.tick(20), 1);
+        ask(x, 5, 0, 5);
+        due("at the top", x.credit(5, 0), 5000);
+        due("a write from near", x.write(4, 0), 201);
+        due("one below", x.credit(5, 0), 4999);
+        ask(x, 5, 1, 24);
+        due("not yet", x.about(1, 1), 0);
+        ask(x, 5, 1, 1);
+        due("at the top", x.credit(5, 1), 5000);
+        due("made", x.about(1, 1), 32);
+        due("gone", x.about(0, 0), 1);
     }
 
     private void askWithTwoComing() {
