@@ -1,5 +1,6 @@
 import java.util.ArrayList;
 import java.util.Comparator;
+import java.util.HashMap;
 import java.util.HashSet;
 import java.util.List;
 import java.util.Map;
@@ -85,6 +86,7 @@ final class PlainPlacer {
     private final List<Host> hosts = new ArrayList<>();
     private final List<Line> lines = new ArrayList<>();
     private final List<Thing> things = new ArrayList<>();
+    private final Map<String, Row> rowsKnown = new HashMap<>();
     private int tick;
     private int made;
     private int unanswered;
@@ -371,14 +373,18 @@ final class PlainPlacer {
     }
 
     long best(int thing) {
-        return isThing(thing) ? bestRow(things.get(thing)).cost : -1;
+        return isThing(thing) ? bestOf(thing).cost : -1;
     }
 
-    int[] bestSets(int thing) {
-        if (!isThing(thing)) {
-            return new int[0];
-        }
-        return bestRow(things.get(thing)).sets.stream().mapToInt(Integer::intValue).toArray();
+    int bestAt(int thing, int i) {
+        boolean isThere = isThing(thing) && i >= 0 && i < things.get(thing).log.size();
+        return isThere ? bestOf(thing).sets.get(i) : -1;
+    }
+
+    /** Rows are kept by all that can change them, as finding one takes long. */
+    private Row bestOf(int thing) {
+        String key = thing + " " + things.get(thing).log.size() + " " + lines.size() + " " + hosts.size();
+        return rowsKnown.computeIfAbsent(key, k -> bestRow(things.get(thing)));
     }
 
     int log(int thing, int i, int what) {

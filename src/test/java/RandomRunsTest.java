@@ -1,16 +1,20 @@
-import java.util.NoSuchElementException;
+import java.util.ArrayList;
+import java.util.List;
 import java.util.Random;
 
-/** Random runs of 512 calls, each answer and now and then all of the state beside PlainPlacer's. */
+/** Random runs of up to 512 calls: each answer, and now and then all of the state, beside PlainPlacer's. */
 public final class RandomRunsTest {
-    private static final int RUNS = 250;
-    private static final int CALLS = 512;
+    private static final int RUNS = 300;
+    private static final int MOVES = 400;
+    private static final int MOVES_BETWEEN_LOOKS_AT_ALL = 100;
 
     private final Checks checks = new Checks();
     private final Random random;
-    private final CopyPlacer x = new CopyPlacer();
-    private final PlainPlacer y = new PlainPlacer();
+    private final Run run = new Run(new CopyPlacer());
+    private final Run plain = new Run(new PlainPlacer());
+    private final List<String> moves = new ArrayList<>();
     private final int mostHosts;
+    private final int mostThings;
     private final int mostSize;
     private final int mostPrice;
     private final int unrest;
@@ -18,6 +22,7 @@ public final class RandomRunsTest {
     private RandomRunsTest(int seed) {
         random = new Random(seed);
         mostHosts = 1 + random.nextInt(6);
+        mostThings = 1 + random.nextInt(8);
         mostSize = random.nextBoolean() ? 3 : 20;
         mostPrice = random.nextBoolean() ? 3 : 50;
         unrest = random.nextInt(3);
@@ -26,16 +31,19 @@ public final class RandomRunsTest {
 
     public static void main(String[] args) {
         for (int seed = 0; seed < RUNS; seed++) {
-            RandomRunsTest run = new RandomRunsTest(seed);
-            run.build();
-            for (int i = 0; i < CALLS; i++) {
-                run.call();
-                if (i % 128 == 127) {
-                    run.compareAll();
+            RandomRunsTest test = new RandomRunsTest(seed);
+            test.build();
+            while (test.moves.size() < MOVES) {
+                test.move();
+                if (test.pick(5) == 0 && test.run.callsLeft() > MOVES - test.moves.size()) {
+                    test.compare(test.someLook());
+                }
+                if (test.moves.size() % MOVES_BETWEEN_LOOKS_AT_ALL == 0) {
+                    test.compareAll();
                 }
             }
-            if (run.checks.anyWrong()) {
-                run.checks.end();
+            if (test.checks.anyWrong()) {
+                test.checks.end();
             }
         }
         System.out.println(RUNS + " random runs are as due");
@@ -43,14 +51,23 @@ public final class RandomRunsTest {
 
     private void build() {
         for (int h = 0; h < mostHosts; h++) {
-            newHost();
+            make(newHost());
         }
         for (int l = 0; l < 2 * mostHosts; l++) {
-            newLine();
+            make(newLine());
         }
-        for (int t = 0; t < 5; t++) {
-            newThing();
+        for (int t = 0; t < mostThings; t++) {
+            make(newThing());
         }
+    }
+
+    private void make(String call) {
+        moves.add(call);
+        compare(call);
+    }
+
+    private void compare(String call) {
+        checks.due(call, run.call(call), plain.call(call));
     }
 
     private int pick(int n) {
@@ -63,160 +80,136 @@ public final class RandomRunsTest {
     }
 
     private int someThing() {
-        return pick(30) == 0 ? pick(12) - 2 : pick(Math.max(1, y.count(2)));
+        return pick(30) == 0 ? pick(12) - 2 : pick((int) Math.max(1, plain.call("count 2")));
     }
 
-    private void call() {
+    private void move() {
         int kind = pick(100);
-        if (kind < 45) {
-            int h = someHost();
-            int t = someThing();
-            checks.due("ask(" + h + ", " + t + ")", x.ask(h, t), y.ask(h, t));
-        } else if (kind < 62) {
-            int h = someHost();
-            int t = someThing();
-            checks.due("write(" + h + ", " + t + ")", x.write(h, t), y.write(h, t));
-        } else if (kind < 78) {
-            int n = pick(20) == 0 ? pick(204) - 1 : 1 + pick(4);
-            checks.due("tick(" + n + ")", x.tick(n), y.tick(n));
-        } else if (kind < 79 + 6 * unrest) {
-            disturb();
+        if (kind < 50) {
+            make("ask " + someHost() + " " + someThing());
+        } else if (kind < 68) {
+            make("write " + someHost() + " " + someThing());
+        } else if (kind < 84) {
+            make("tick " + (pick(20) == 0 ? pick(204) - 1 : 1 + pick(4)));
+        } else if (kind < 86 + 6 * unrest) {
+            make(disturbance());
         } else {
-            grow();
+            make(growth());
         }
-        compareSome();
     }
 
-    private void disturb() {
-        int h = someHost();
-        switch (pick(4)) {
+    private String disturbance() {
+        switch (pick(9)) {
             case 0:
-                int b = someHost();
-                boolean is = pick(2) == 0;
-                checks.due("cut(" + h + ", " + b + ", " + is + ")", x.cut(h, b, is), y.cut(h, b, is));
-                break;
+                return "fall " + someHost();
             case 1:
-                if (pick(3) == 0) {
-                    checks.due("fall(" + h + ")", x.fall(h), y.fall(h));
-                }
-                break;
             case 2:
-                checks.due("rise(" + h + ")", x.rise(h), y.rise(h));
-                break;
+            case 3:
+                return "rise " + someHost();
+            case 4:
+            case 5:
+            case 6:
+                return "cut " + someHost() + " " + someHost() + " " + (pick(2) == 0);
             default:
-                int t = someThing();
-                boolean pinned = pick(2) == 0;
-                checks.due("pin(" + t + ", " + h + ", " + pinned + ")", x.pin(t, h, pinned), y.pin(t, h, pinned));
+                return "pin " + someThing() + " " + someHost() + " " + (pick(2) == 0);
         }
     }
 
-    private void grow() {
-        switch (pick(6)) {
+    private String growth() {
+        switch (pick(8)) {
             case 0:
-                newThing();
-                break;
+                return newHost();
             case 1:
-                newLine();
-                break;
             case 2:
-                if (pick(8) == 0) {
-                    newHost();
-                }
-                break;
+                return newThing();
+            case 3:
+                return newLine();
             default:
-                comparePrice(someHost(), someHost());
+                return "price " + someHost() + " " + someHost();
         }
     }
 
-    private void newHost() {
+    private String newHost() {
         int room = pick(10) == 0 ? pick(220) - 10 : 5 + pick(3 * mostSize);
         int rack = pick(20) == 0 ? pick(8) - 2 : pick(4);
-        checks.due("host(" + room + ", " + rack + ")", x.host(room, rack), y.host(room, rack));
+        return "host " + room + " " + rack;
     }
 
-    private void newLine() {
-        int a = someHost();
-        int b = someHost();
+    private String newLine() {
         int price = pick(20) == 0 ? pick(60) - 4 : 1 + pick(mostPrice);
-        checks.due("line(" + a + ", " + b + ", " + price + ")", x.line(a, b, price), y.line(a, b, price));
+        return "line " + someHost() + " " + someHost() + " " + price;
     }
 
-    private void newThing() {
+    private String newThing() {
         int size = pick(20) == 0 ? pick(25) - 2 : 1 + pick(mostSize);
         int least = pick(20) == 0 ? pick(7) - 1 : 1 + pick(3);
-        int h = someHost();
-        checks.due("thing(" + size + ", " + least + ", " + h + ")", x.thing(size, least, h), y.thing(size, least, h));
+        return "thing " + size + " " + least + " " + someHost();
     }
 
-    private void compareSome() {
-        int h = someHost();
-        int t = someThing();
-        int what = pick(12) - 1;
-        checks.due("nearest(" + h + ", " + t + ")", x.nearest(h, t), y.nearest(h, t));
-        checks.due("about(" + t + ", " + what + ")", x.about(t, what), y.about(t, what));
-        checks.due("credit(" + h + ", " + t + ")", x.credit(h, t), y.credit(h, t));
-        checks.due("count(" + what + ")", x.count(what), y.count(what));
-    }
-
-    private void comparePrice(int a, int b) {
-        checks.due("price(" + a + ", " + b + ")", priceOfX(a, b), priceOfY(a, b));
-    }
-
-    private int priceOfX(int a, int b) {
-        try {
-            return x.price(a, b);
-        } catch (NoSuchElementException e) {
-            return -9;
+    private String someLook() {
+        switch (pick(4)) {
+            case 0:
+                return "nearest " + someHost() + " " + someThing();
+            case 1:
+                return "about " + someThing() + " " + (pick(10) - 1);
+            case 2:
+                return "credit " + someHost() + " " + someThing();
+            default:
+                return "count " + (pick(12) - 1);
         }
     }
 
-    private int priceOfY(int a, int b) {
-        try {
-            return y.price(a, b);
-        } catch (NoSuchElementException e) {
-            return -9;
-        }
-    }
-
+    /** Looks go to new objects led to the same state, each as far as its 512 calls go. */
     private void compareAll() {
-        for (int what = -1; what <= 10; what++) {
-            checks.due("count(" + what + ")", x.count(what), y.count(what));
-        }
-        for (int h = -1; h <= 6; h++) {
-            for (int what = -1; what <= 5; what++) {
-                checks.due("hostOf(" + h + ", " + what + ")", x.hostOf(h, what), y.hostOf(h, what));
+        Run another = null;
+        for (String look : looks()) {
+            if (another == null || another.callsLeft() == 0) {
+                another = new Run(new CopyPlacer());
+                another.callAll(moves.toArray(new String[0]));
             }
-            for (int b = -1; b <= 6; b++) {
-                comparePrice(h, b);
-            }
-        }
-        for (int t = -1; t <= 8; t++) {
-            compareThing(t);
+            checks.due(look, another.call(look), plain.call(look));
         }
     }
 
-    private void compareThing(int t) {
+    private List<String> looks() {
+        List<String> looks = new ArrayList<>();
+        for (int what = -1; what <= 10; what++) {
+            looks.add("count " + what);
+        }
+        for (int h = -1; h <= plain.call("count 0"); h++) {
+            for (int what = -1; what <= 5; what++) {
+                looks.add("hostOf " + h + " " + what);
+            }
+            for (int b = -1; b <= plain.call("count 0"); b++) {
+                looks.add("price " + h + " " + b);
+            }
+        }
+        for (int t = -1; t <= plain.call("count 2"); t++) {
+            lookAtThing(t, looks);
+        }
+        return looks;
+    }
+
+    private void lookAtThing(int t, List<String> looks) {
         for (int what = -1; what <= 8; what++) {
-            checks.due("about(" + t + ", " + what + ")", x.about(t, what), y.about(t, what));
-            checks.due("cost(" + t + ", " + what + ")", x.cost(t, what), y.cost(t, what));
+            looks.add("about " + t + " " + what);
         }
-        for (int h = -1; h <= 6; h++) {
-            checks.due("nearest(" + h + ", " + t + ")", x.nearest(h, t), y.nearest(h, t));
-            checks.due("credit(" + h + ", " + t + ")", x.credit(h, t), y.credit(h, t));
+        for (int what = -1; what <= 4; what++) {
+            looks.add("cost " + t + " " + what);
+        }
+        for (int h = -1; h <= plain.call("count 0"); h++) {
+            looks.add("nearest " + h + " " + t);
+            looks.add("credit " + h + " " + t);
             for (int what = -1; what <= 2; what++) {
-                checks.due("coming(" + t + ", " + h + ", " + what + ")", x.coming(t, h, what), y.coming(t, h, what));
+                looks.add("coming " + t + " " + h + " " + what);
             }
         }
-        for (int i = -1; i <= 60; i++) {
+        looks.add("best " + t);
+        for (int i = -1; i <= plain.call("about " + t + " 7"); i++) {
+            looks.add("bestAt " + t + " " + i);
             for (int what = -1; what <= 3; what++) {
-                checks.due("log(" + t + ", " + i + ", " + what + ")", x.log(t, i, what), y.log(t, i, what));
+                looks.add("log " + t + " " + i + " " + what);
             }
-        }
-        checks.due("best(" + t + ")", x.best(t), y.best(t));
-        int[] sets = y.bestSets(t);
-        for (int i = -1; i <= 60; i++) {
-            int want = i >= 0 && i < sets.length ? sets[i] : -1;
-            checks.due("bestAt(" + t + ", " + i + ")", x.bestAt(t, i), want);
         }
     }
 }
