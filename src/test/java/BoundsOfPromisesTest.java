@@ -135,6 +135,10 @@ public final class BoundsOfPromisesTest {
         t.due("price 1 2", NONE);
         t.go("rise 1");
         t.due("price 1 2", 9);
+        t.fresh();
+        t.go("host 1 0", "host 1 0", "fall 1");
+        t.due("line 0 1 9", TRUE);
+        t.due("count 1", 1);
     }
 
     private void cut() {
@@ -156,7 +160,8 @@ public final class BoundsOfPromisesTest {
         t.due("price 0 1", NONE);
         t.due("price 1 2", 2);
         t.go("fall 0");
-        t.due("cut 0 1 false", TRUE);
+        t.due("cut 0 1 true", TRUE);
+        t.due("cut 1 0 false", TRUE);
         t.due("price 0 1", NONE);
         t.go("rise 0");
         t.due("price 0 1", 2);

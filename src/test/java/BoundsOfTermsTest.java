@@ -14,6 +14,7 @@ public final class BoundsOfTermsTest {
         test.hosts();
         test.lines();
         test.prices();
+        test.pricesRoundACut();
         test.things();
         test.credit();
         test.nearest();
@@ -177,6 +178,36 @@ public final class BoundsOfTermsTest {
         t.due("price 1 1", NONE);
         t.due("price 1 0", NONE);
         t.due("price 0 0", 0);
+    }
+
+    /** The line of 2 between 0 and 1 is cut: it is 7 by host 2, and that is paid everywhere. */
+    private void aroundACut(int size, int least) {
+        t.fresh();
+        t.go("host 200 0", "host 200 0", "host 200 0", "line 0 1 2", "line 0 2 3", "line 1 2 4", "cut 0 1 true");
+        t.due("price 0 1", 7);
+        t.due("thing " + size + " " + least + " 0", 0);
+    }
+
+    private void pricesRoundACut() {
+        t.words("the least sum of PRICES of LINES that are not CUT");
+        aroundACut(2, 1);
+        t.due("ask 1 0", 7);
+        t.due("about 0 1", 0);
+        t.due("ask 1 0", 7);
+        t.due("about 0 1", 2);
+        t.due("cost 0 2", 14);
+        t.due("tick 2", 1);
+        t.due("ask 1 0", 0);
+        t.due("credit 1 0", 21);
+        t.due("write 0 0", 7);
+        t.due("credit 1 0", 14);
+        aroundACut(1, 1);
+        t.go("ask 2 0", "tick 1");
+        t.due("about 0 0", 5);
+        t.due("nearest 1 0", 2);
+        aroundACut(1, 2);
+        t.go("tick 1");
+        t.due("about 0 1", 4);
     }
 
     private void things() {
@@ -553,6 +584,42 @@ public final class BoundsOfTermsTest {
         t.times(3, "ask 1 1");
         t.due("about 0 0", 1);
 
+        t.words("WHOLE COPIES of other THINGS on it that MAY GO");
+        // Thing 0 is whole on 0 and 2 and coming on 1: that one does not go, though it has less credit.
+        t.go("host 200 0", "host 2 0", "host 200 0", "line 0 1 1", "line 0 2 1", "thing 2 1 0");
+        t.go("ask 2 0", "ask 2 0", "tick 2", "ask 1 0", "ask 1 0", "thing 2 1 0");
+        t.due("about 0 0", 5);
+        t.due("about 0 1", 2);
+        t.times(5, "ask 1 1");
+        t.due("about 0 1", 2);
+        t.due("about 1 1", 0);
+        t.due("count 8", 0);
+        // Thing 0 is whole elsewhere alone, thing 1 may not go: one is free where two are needed.
+        t.fresh();
+        t.go("host 200 0", "host 2 0", "host 200 0", "line 0 1 1", "line 0 2 1", "thing 2 1 0", "thing 1 1 1");
+        t.go("ask 2 0", "ask 2 0", "tick 2", "thing 2 1 0");
+        t.due("about 0 0", 5);
+        t.times(5, "ask 1 2");
+        t.due("about 2 1", 0);
+        t.due("about 1 0", 2);
+        t.due("hostOf 1 3", 1);
+        t.due("count 8", 0);
+
+        t.words("a COPY is MADE there, if that can be, and there is ROOM");
+        // Two of thing 1 are coming: thing 0 does not go for a third that can't be made.
+        t.star(1, 3);
+        t.go("host 2 0", "line 0 3 1", "thing 2 1 0", "ask 3 0", "ask 3 0", "tick 2", "thing 2 1 0");
+        t.go("ask 1 1", "ask 1 1", "ask 2 1", "ask 2 1");
+        t.due("about 1 1", 6);
+        t.times(4, "ask 3 1");
+        t.due("about 1 1", 6);
+        t.due("about 0 0", 9);
+        t.due("count 8", 0);
+        t.go("tick 2", "ask 3 1");
+        t.due("about 1 1", 8);
+        t.due("about 0 0", 1);
+        t.due("count 8", 1);
+
         t.words("by the least CREDIT first, of like ones the least THING, till it is");
         t.go("host 200 0", "host 6 0", "line 0 1 1");
         for (int i = 0; i < 3; i++) {
@@ -804,6 +871,18 @@ public final class BoundsOfTermsTest {
         t.due("about 0 1", 0);
         t.due("about 0 0", 1);
         t.due("credit 1 0", 2);
+        // The source has gone and is coming again itself: it is not whole.
+        t.fresh();
+        t.chain(1, 0, 0, 0);
+        t.go("thing 2 1 0", "ask 1 0", "ask 1 0", "tick 2", "ask 2 0", "ask 2 0");
+        t.due("coming 0 2 0", 1);
+        t.go("write 0 0", "write 0 0");
+        t.due("about 0 0", 1);
+        t.go("ask 1 0", "ask 1 0");
+        t.due("about 0 1", 6);
+        t.due("tick 1", 0);
+        t.due("about 0 1", 2);
+        t.due("coming 0 1 1", 1);
         // The source falls and rises again: its copy is not whole.
         t.fresh();
         t.star(1, 3);
@@ -928,6 +1007,16 @@ public final class BoundsOfTermsTest {
         t.go("cut 0 1 true", "fall 0", "fall 1");
         t.due("best 0", 8);
         t.due("bestAt 0 2", 2);
+        t.fresh();
+        t.chain(4, 0, 0, 0);
+        t.go("thing 2 1 0", "ask 2 0", "ask 2 0", "ask 2 0", "cut 0 1 true");
+        t.due("best 0", 16);
+        t.due("bestAt 0 2", 4);
+        t.fresh();
+        t.chain(4, 0, 0, 0);
+        t.go("thing 2 1 0", "ask 2 0", "ask 2 0", "ask 2 0", "fall 1", "fall 2", "fall 0");
+        t.due("best 0", 16);
+        t.due("bestAt 0 2", 4);
 
         t.words("a SET of HOSTS for each of the LOG, not empty");
         t.chain(7, 0, 0);
@@ -955,6 +1044,15 @@ public final class BoundsOfTermsTest {
         t.due("best 0", 14);
         t.due("bestAt 0 0", 2);
         t.due("bestAt 0 7", 4);
+
+        t.words("An ASK costs the least PRICE to one of its SET, a WRITE the PRICES to all of its SET together.");
+        // On 0, on 1 or on both: 10 in each of these plans.
+        t.chain(5, 0, 0);
+        t.go("thing 1 1 0", "ask 1 0", "write 0 0", "ask 1 0");
+        t.due("best 0", 10);
+        t.due("bestAt 0 0", 1);
+        t.due("bestAt 0 1", 1);
+        t.due("bestAt 0 2", 1);
 
         t.words("BEST is the least sum of all");
         t.chain(50, 0, 0, 0, 0, 0, 0);
